@@ -199,7 +199,8 @@ public final class PlaneSplitter {
         int count = bottomOf(level, 0) - first;
         int right = rightOf(level, 0);
         for (int x = leftOf(level, 0); x < right; x++) {
-            turnLine(indexOf(level, 0, x, first), wide << level, count, first, isJoined);
+            int index = indexOf(level, 0, x, first);
+            numbers.turnLine(index, wide << level, count, first & 1, isJoined);
         }
     }
 
@@ -208,16 +209,8 @@ public final class PlaneSplitter {
         int count = rightOf(level, 0) - first;
         int bottom = bottomOf(level, 0);
         for (int y = topOf(level, 0); y < bottom; y++) {
-            turnLine(indexOf(level, 0, first, y), 1 << level, count, first, isJoined);
-        }
-    }
-
-    private void turnLine(int index, int step, int count, int firstPlace, boolean isJoined) {
-        int odd = firstPlace & 1;
-        if (isJoined) {
-            numbers.joinLine(index, step, count, odd);
-        } else {
-            numbers.splitLine(index, step, count, odd);
+            int index = indexOf(level, 0, first, y);
+            numbers.turnLine(index, 1 << level, count, first & 1, isJoined);
         }
     }
 
@@ -227,7 +220,7 @@ public final class PlaneSplitter {
         int newTop = topOf(level, 0);
         int right = rightOf(level, 0);
         int bottom = bottomOf(level, 0);
-        // A number never goes behind where it was, so that none is lost that has yet to be moved.
+        // No number goes to an index above its own, so none is written over before it has moved.
         int to = 0;
         for (int y = newTop; y < bottom; y++) {
             for (int x = newLeft; x < right; x++) {
@@ -359,19 +352,20 @@ public final class PlaneSplitter {
         /** Joins a line of more than one number. */
         abstract void joinLong(int first, int step, int count, int odd);
 
-        final void splitLine(int first, int step, int count, int odd) {
+        /** Splits or joins a line of any count; an empty one has no first number to touch. */
+        final void turnLine(int first, int step, int count, int odd, boolean isJoined) {
             if (count > 1) {
-                splitLong(first, step, count, odd);
+                if (isJoined) {
+                    joinLong(first, step, count, odd);
+                } else {
+                    splitLong(first, step, count, odd);
+                }
             } else if (count == 1 && odd == 1) {
-                makeDouble(first);
-            }
-        }
-
-        final void joinLine(int first, int step, int count, int odd) {
-            if (count > 1) {
-                joinLong(first, step, count, odd);
-            } else if (count == 1 && odd == 1) {
-                makeHalf(first);
+                if (isJoined) {
+                    makeHalf(first);
+                } else {
+                    makeDouble(first);
+                }
             }
         }
 

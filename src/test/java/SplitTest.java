@@ -118,15 +118,15 @@ final class SplitTest {
         expect.equal("high down", p.band(1, 2, 0, 0), 2);
         expect.equal("high in both", p.band(1, 3, 0, 0), -1);
         p.begin(0, 0, 2, 2, 1, false);
-        p.set(0, 0, 3);
-        p.set(1, 0, 1);
         p.set(0, 1, 1);
+        p.set(1, 1, 3);
         p.split();
-        // Columns: (3, 1) to (2, -2), (1, 0) to (1, -1); then rows: (2, 1) to (2, -1), (-2, -1) to (-1, 1).
+        // Columns: (0, 1) to (1, 1), (0, 3) to (2, 3); then rows: (1, 2) to (2, 1), (1, 3) to (2, 2).
+        // With the rows first, band 0 would be 1.
         expect.equal("low in both", p.band(1, 0, 0, 0), 2);
-        expect.equal("high across", p.band(1, 1, 0, 0), -1);
-        expect.equal("high down", p.band(1, 2, 0, 0), -1);
-        expect.equal("high in both", p.band(1, 3, 0, 0), 1);
+        expect.equal("high across", p.band(1, 1, 0, 0), 1);
+        expect.equal("high down", p.band(1, 2, 0, 0), 2);
+        expect.equal("high in both", p.band(1, 3, 0, 0), 2);
     }
 
     private static void levelsGoOnWithBandZero() {

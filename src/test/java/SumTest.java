@@ -58,6 +58,8 @@ final class SumTest {
         p.put(0, 0, 0, 0, 1.3f);
         p.put(0, 0, 1, 0, -1.3f);
         expect.equal("eight times, without its fraction", p.sum(), chain(10, -10));
+        p.put(0, 0, 0, 0, 1.2f);
+        expect.equal("the fraction is dropped, not rounded", p.sum(), chain(9, -10));
         p.put(0, 0, 0, 0, 16777216f);
         expect.equal("large ones", p.sum(), chain(134217728, -10));
         p.join(0);
