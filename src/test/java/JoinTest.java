@@ -1,29 +1,34 @@
-/** Promises 6 and 12: joining, and putting numbers into bands. */
-final class JoinTest {
-    private static final Expect expect = new Expect();
+import java.util.Arrays;
 
-    public static void main(String[] args) {
-        intsComeBackExactly();
-        realsComeBackNearly();
-        aLowerResolutionIsThatOfTheBand();
-        joinOfOnePlace();
-        joinOfReals();
-        rowsAreJoinedFirst();
-        levelsStay();
-        joinRefuses();
-        putIsRead();
-        putRefuses();
-        expect.end();
-    }
+/** Promise 6: join. */
+final class JoinTest {
+    private static final int MIN = Integer.MIN_VALUE;
+    private static final int MAX = Integer.MAX_VALUE;
+
+    private static final Expect expect = new Expect();
 
     private static final int[][] SHAPES = {
         {0, 0, 8, 8, 3}, {1, 1, 8, 8, 3}, {3, 5, 7, 6, 2}, {5, 4, 1, 9, 4}, {4, 5, 9, 1, 4}, {5, 5, 1, 1, 20},
         {1000000, 999999, 33, 17, 20}, {0, 0, 128, 128, 7}, {7, 0, 1024, 16, 12}, {2, 3, 2, 2, 1}, {9, 9, 5, 5, 0},
     };
 
+    public static void main(String[] args) {
+        intsComeBackExactly();
+        realsComeBackNearly();
+        resolutionNought();
+        aLowerResolutionIsThatOfTheBand();
+        aResolutionWithoutPlaces();
+        itIsWholeThen();
+        levelsStay();
+        rFromNoughtToItsLevels();
+        ofAWholePlane();
+        argumentsBeforeState();
+        expect.end();
+    }
+
     private static void intsComeBackExactly() {
-        PlaneSplitter p = new PlaneSplitter();
         for (int[] s : SHAPES) {
+            PlaneSplitter p = new PlaneSplitter();
             p.begin(s[0], s[1], s[2], s[3], s[4], false);
             p.fill(12345, 777, 4321);
             int whole = p.sum();
@@ -32,7 +37,7 @@ final class JoinTest {
             p.split();
             int split = p.sum();
             p.join(s[4]);
-            String what = java.util.Arrays.toString(s);
+            String what = Arrays.toString(s);
             expect.equal(what + ": sum", p.sum(), whole);
             expect.equal(what + ": first", p.at(s[0], s[1]), first);
             expect.equal(what + ": last", p.at(s[0] + s[2] - 1, s[1] + s[3] - 1), last);
@@ -42,31 +47,51 @@ final class JoinTest {
     }
 
     private static void realsComeBackNearly() {
-        PlaneSplitter p = new PlaneSplitter();
         for (int[] s : SHAPES) {
+            PlaneSplitter p = new PlaneSplitter();
             p.begin(s[0], s[1], s[2], s[3], s[4], true);
             p.fill(12345, 777, 4321);
             float first = p.real(s[0], s[1]);
             float last = p.real(s[0] + s[2] - 1, s[1] + s[3] - 1);
             p.split();
             p.join(s[4]);
-            String what = java.util.Arrays.toString(s);
+            String what = Arrays.toString(s);
             expect.isTrue(what + ": first", Math.abs(p.real(s[0], s[1]) - first) < 1f);
             expect.isTrue(what + ": last", Math.abs(p.real(s[0] + s[2] - 1, s[1] + s[3] - 1) - last) < 1f);
         }
     }
 
+    /** Resolution 0 is band 0 of the last level as it lies. */
+    private static void resolutionNought() {
+        for (State state : new State[] {State.SPLIT_INTS, State.SPLIT_REALS}) {
+            PlaneSplitter p = state.make();
+            p.put(2, 0, 1, 2, 1000.75f);
+            p.put(2, 0, 2, 2, -77.5f);
+            float[] due = {p.bandReal(2, 0, 1, 2), p.bandReal(2, 0, 2, 2)};
+            p.join(0);
+            expect.equalReal(state + ": its first number", p.real(1, 2), due[0]);
+            expect.equalReal(state + ": its last number", p.real(2, 2), due[1]);
+            for (int[] a : new int[][] {{0, 2}, {3, 2}, {1, 1}, {1, 3}, {3, 5}, {9, 10}}) {
+                expect.refusesArgument("beside it at(" + a[0] + ", " + a[1] + ")", p, q -> q.at(a[0], a[1]));
+            }
+        }
+        PlaneSplitter q = State.SPLIT_WITHOUT_LEVELS.make();
+        float due = q.bandReal(0, 0, 7, 8);
+        q.join(0);
+        expect.equalReal("without levels it is the plane", q.real(7, 8), due);
+    }
+
     /** Joined to r, a plane is band 0 of a plane split in as many levels as are not undone. */
     private static void aLowerResolutionIsThatOfTheBand() {
-        PlaneSplitter p = new PlaneSplitter();
-        PlaneSplitter q = new PlaneSplitter();
         for (int[] s : SHAPES) {
             for (int r = 0; r <= s[4]; r++) {
+                PlaneSplitter p = new PlaneSplitter();
                 p.begin(s[0], s[1], s[2], s[3], s[4], false);
                 p.fill(12345, 777, 4321);
                 p.split();
                 p.join(r);
                 int level = s[4] - r;
+                PlaneSplitter q = new PlaneSplitter();
                 q.begin(s[0], s[1], s[2], s[3], level, false);
                 q.fill(12345, 777, 4321);
                 q.split();
@@ -78,78 +103,55 @@ final class JoinTest {
     private static void compareWithBand(PlaneSplitter p, PlaneSplitter q, int level) {
         int left = q.edge(level, 0, 0);
         int top = q.edge(level, 0, 1);
-        int wide = q.edge(level, 0, 2);
-        int high = q.edge(level, 0, 3);
-        int sum = 0;
-        for (int y = top; y < top + high; y++) {
-            for (int x = left; x < left + wide; x++) {
-                expect.equal("resolution at " + x + ", " + y, p.at(x, y), q.band(level, 0, x, y));
-                sum = 31 * sum + p.at(x, y);
+        int right = left + q.edge(level, 0, 2);
+        int bottom = top + q.edge(level, 0, 3);
+        // A plane has 512 calls, so of a large one every n-th number is asked for.
+        int step = 1 + (right - left) * (bottom - top) / 400;
+        for (int k = 0; k < (right - left) * (bottom - top); k += step) {
+            int x = left + k % (right - left);
+            int y = top + k / (right - left);
+            expect.equal("resolution at " + x + ", " + y, p.at(x, y), q.band(level, 0, x, y));
+        }
+        for (int[] a : new int[][] {{left - 1, top}, {right, top}, {left, top - 1}, {left, bottom}}) {
+            expect.refusesArgument("beside the resolution", p, joined -> joined.at(a[0], a[1]));
+        }
+    }
+
+    private static void aResolutionWithoutPlaces() {
+        int[][] shapes = {
+            // Left, top, wide, high, levels; then r, and LEFT, TOP, WIDE, HIGH of level 1's band 3.
+            {5, 4, 1, 3, 1, 0, 1, 1, 0, 1}, {4, 5, 3, 1, 1, 0, 1, 1, 1, 0}, {5, 5, 1, 1, 1, 0, 1, 1, 0, 0},
+            {5, 4, 1, 3, 2, 1, 1, 1, 0, 1}, {6, 6, 1, 1, 2, 0, 1, 1, 0, 0},
+        };
+        for (int[] s : shapes) {
+            for (boolean real : new boolean[] {false, true}) {
+                PlaneSplitter p = new PlaneSplitter();
+                p.begin(s[0], s[1], s[2], s[3], s[4], real);
+                p.fill(1, 2, 3);
+                p.split();
+                p.join(s[5]);
+                String what = Arrays.toString(s);
+                for (int w = 0; w < 4; w++) {
+                    expect.equal(what + ": edge " + w, p.edge(1, 3, w), s[6 + w]);
+                }
+                expect.equal(what + ": sum", p.sum(), 0);
+                p.split();
+                expect.equal(what + ": split, sum", p.sum(), 0);
+                p.join(s[4]);
+                expect.equal(what + ": joined again, sum", p.sum(), 0);
             }
         }
-        expect.equal("the sum of the resolution", p.sum(), sum);
-        expect.refusesArgument("right of it", () -> p.at(left + wide, top));
-        expect.refusesArgument("below it", () -> p.at(left, top + high));
-        expect.refusesArgument("left of it", () -> p.at(left - 1, top));
-        expect.refusesArgument("above it", () -> p.at(left, top - 1));
     }
 
-    private static void joinOfOnePlace() {
-        PlaneSplitter p = new PlaneSplitter();
-        p.begin(4, 7, 1, 1, 1, false);
-        p.split();
-        p.put(1, 2, 2, 3, -7f);
-        p.join(1);
-        expect.equal("half goes down", p.at(4, 7), -4);
-        p.begin(5, 7, 1, 1, 1, false);
-        p.split();
-        p.put(1, 3, 2, 3, -7f);
-        p.join(1);
-        expect.equal("half goes down twice", p.at(5, 7), -2);
-        p.begin(5, 7, 1, 1, 1, true);
-        p.split();
-        p.put(1, 3, 2, 3, -7f);
-        p.join(1);
-        expect.equalReal("of reals it does not", p.real(5, 7), -1.75f);
-        p.begin(4, 8, 1, 1, 1, false);
-        p.set(4, 8, -7);
-        p.split();
-        p.join(1);
-        expect.equal("an even place", p.at(4, 8), -7);
-        p.split();
-        p.join(0);
-        expect.equal("at its place of the resolution", p.at(2, 4), -7);
-    }
-
-    private static void joinOfReals() {
-        PlaneSplitter p = new PlaneSplitter();
-        p.begin(2, 0, 2, 1, 1, true);
-        p.split();
-        p.put(1, 0, 1, 0, 10.3f);
-        p.put(1, 1, 1, 0, 3.7f);
-        p.join(1);
-        float even = 10.3f * 1.230174104914001f;
-        float odd = 3.7f * 0.8128930661159609f;
-        even = even - 0.443506852043971f * (odd + odd);
-        odd = odd - 0.882911075530934f * (even + even);
-        even = even - -0.052980118572961f * (odd + odd);
-        odd = odd - -1.586134342059924f * (even + even);
-        expect.equalReal("joined reals: even", p.real(2, 0), even);
-        expect.equalReal("joined reals: odd", p.real(3, 0), odd);
-    }
-
-    private static void rowsAreJoinedFirst() {
-        PlaneSplitter p = new PlaneSplitter();
-        p.begin(0, 0, 2, 2, 1, false);
-        p.split();
-        p.put(1, 1, 0, 0, 3f);
-        p.put(1, 2, 0, 0, 1f);
-        p.join(1);
-        // Rows: (0, 3) to (-2, 1), (1, 0) to (1, 1); then columns: (-2, 1) to (-3, -2), (1, 1) to (0, 1).
-        expect.equal("joined at 0, 0", p.at(0, 0), -3);
-        expect.equal("joined at 1, 0", p.at(1, 0), 0);
-        expect.equal("joined at 0, 1", p.at(0, 1), -2);
-        expect.equal("joined at 1, 1", p.at(1, 1), 1);
+    private static void itIsWholeThen() {
+        for (State state : new State[] {State.SPLIT_INTS, State.SPLIT_REALS, State.SPLIT_WITHOUT_PLACES}) {
+            for (int r = 0; r <= 2; r++) {
+                PlaneSplitter p = state.make();
+                p.join(r);
+                expect.refusesState("joined twice in " + state, p, q -> q.join(0));
+                p.fill(1, 2, 3);
+            }
+        }
     }
 
     private static void levelsStay() {
@@ -160,7 +162,6 @@ final class JoinTest {
         p.join(1);
         expect.equal("levels stay: WIDE", p.edge(1, 1, 2), 2);
         expect.equal("levels stay: the last", p.edge(3, 0, 2), 1);
-        expect.refusesArgument("levels stay: no more", () -> p.edge(4, 1, 2));
         p.split();
         p.join(3);
         expect.equal("levels stay: joined in all", p.edge(1, 1, 2), 2);
@@ -170,89 +171,74 @@ final class JoinTest {
         p.split();
         p.join(0);
         expect.equal("one place is left", p.at(0, 0), p.sum());
-    }
-
-    private static void joinRefuses() {
-        PlaneSplitter p = new PlaneSplitter();
-        p.begin(3, 5, 7, 6, 2, false);
-        p.fill(3, 4, 5);
-        int whole = p.sum();
-        expect.refusesState("join of a whole plane", () -> p.join(0));
-        expect.refusesState("join of a whole plane", () -> p.join(2));
-        expect.refusesArgument("the argument is looked at first", () -> p.join(3));
-        expect.equal("neither changes a number", p.sum(), whole);
-        p.split();
-        int split = p.sum();
-        for (int r : new int[] {-1, 3, 20, Integer.MAX_VALUE, Integer.MIN_VALUE}) {
-            expect.refusesArgument("join(" + r + ")", () -> p.join(r));
-        }
-        expect.equal("no number changes", p.sum(), split);
-        expect.equal("it is split still", p.band(1, 3, 1, 2), 5);
-    }
-
-    private static void putIsRead() {
-        float[] values = {0f, -0.0f, 2.75f, -2.75f, 16777216f, -16777216f, 0.999f, 1e-40f, 16777215f};
-        int[] ints = {0, 0, 2, -2, 16777216, -16777216, 0, 0, 16777215};
-        PlaneSplitter p = new PlaneSplitter();
-        for (boolean real : new boolean[] {false, true}) {
-            p.begin(3, 5, 7, 6, 2, real);
+        for (int k = 0; k < 5; k++) {
             p.split();
-            for (int i = 0; i < values.length; i++) {
-                p.put(1, 3, 2, 4, values[i]);
-                expect.equal("put " + values[i], p.band(1, 3, 2, 4), ints[i]);
-                expect.equalReal("put " + values[i], p.bandReal(1, 3, 2, 4), real ? values[i] : ints[i]);
+            p.join(0);
+        }
+        expect.equal("and it stays", p.at(0, 0), p.sum());
+        expect.refusesArgument("level 3 and no more", State.JOINED_TO_LESS, q -> q.edge(3, 1, 0));
+        expect.allows("level 2", State.JOINED_TO_LESS, q -> q.edge(2, 1, 0));
+    }
+
+    private static void rFromNoughtToItsLevels() {
+        int[][] levelsAndWrong = {{0, 1}, {1, 2}, {2, 3}, {19, 20}, {20, 21}};
+        for (int[] a : levelsAndWrong) {
+            for (int r : new int[] {0, a[0]}) {
+                PlaneSplitter p = new PlaneSplitter();
+                p.begin(0, 0, 3, 3, a[0], false);
+                p.set(0, 0, 5);
+                p.split();
+                p.join(r);
+                expect.equal("join(" + r + ") of " + a[0] + " levels: wide", wide(p), r == a[0] ? 3 : a[0] == 1 ? 2 : 1);
             }
-            for (int level = 1; level <= 2; level++) {
-                for (int band = level == 2 ? 0 : 1; band < 4; band++) {
-                    eachPlaceHasItsOwn(p, level, band);
+            for (int r : new int[] {-1, a[1]}) {
+                PlaneSplitter p = new PlaneSplitter();
+                p.begin(0, 0, 3, 3, a[0], false);
+                p.split();
+                expect.refusesArgument("join(" + r + ") of " + a[0] + " levels", p, q -> q.join(r));
+            }
+        }
+        for (State state : State.values()) {
+            if (state.name().contains("SPLIT")) {
+                int wrong = state == State.SPLIT_WITHOUT_LEVELS ? 1 : 3;
+                for (int r : new int[] {-1, -2, MIN, wrong, wrong + 1, 20, 21, MAX}) {
+                    expect.refusesArgument("join(" + r + ")", state, p -> p.join(r));
+                }
+                for (int r = 0; r < wrong; r++) {
+                    int allowed = r;
+                    expect.allows("join(" + r + ")", state, p -> p.join(allowed));
                 }
             }
         }
     }
 
-    private static void eachPlaceHasItsOwn(PlaneSplitter p, int level, int band) {
-        int left = p.edge(level, band, 0);
-        int top = p.edge(level, band, 1);
-        int right = left + p.edge(level, band, 2);
-        int bottom = top + p.edge(level, band, 3);
-        for (int round = 0; round < 2; round++) {
-            for (int y = top; y < bottom; y++) {
-                for (int x = left; x < right; x++) {
-                    int v = 1000 * level + 100 * band + 10 * y + x;
-                    if (round == 0) {
-                        p.put(level, band, x, y, v);
-                    } else {
-                        expect.equal("what was put in band " + band, p.band(level, band, x, y), v);
-                    }
+    private static int wide(PlaneSplitter p) {
+        int wide = 0;
+        try {
+            while (wide < 1024) {
+                p.at(wide, 0);
+                wide++;
+            }
+        } catch (IllegalArgumentException e) {
+            return wide;
+        }
+        return wide;
+    }
+
+    private static void ofAWholePlane() {
+        for (State state : State.values()) {
+            if (!state.name().contains("SPLIT")) {
+                expect.refusesState("join(0)", state, p -> p.join(0));
+                if (state != State.NEW && state != State.WHOLE_WITHOUT_LEVELS) {
+                    expect.refusesState("join(2)", state, p -> p.join(2));
                 }
             }
         }
     }
 
-    private static void putRefuses() {
-        PlaneSplitter p = new PlaneSplitter();
-        p.begin(3, 5, 7, 6, 2, false);
-        p.fill(9, 8, 7);
-        int whole = p.sum();
-        expect.refusesState("put into a whole plane", () -> p.put(1, 1, 1, 3, 1f));
-        expect.refusesArgument("the argument is looked at first", () -> p.put(1, 1, 0, 3, 1f));
-        expect.equal("neither changes a number", p.sum(), whole);
-        p.split();
-        int split = p.sum();
-        float[] wrong = {
-            Float.NaN, Float.POSITIVE_INFINITY, Float.NEGATIVE_INFINITY, 16777218f, -16777218f, Float.MAX_VALUE,
-        };
-        for (float v : wrong) {
-            expect.refusesArgument("put " + v, () -> p.put(1, 1, 1, 3, v));
-        }
-        int[][] nowhere = {
-            {1, 0, 2, 3}, {0, 0, 3, 5}, {3, 1, 0, 0}, {1, 4, 1, 3}, {1, 1, 0, 3}, {1, 1, 5, 3}, {1, 1, 1, 2},
-            {1, 1, 1, 6}, {2, 0, 0, 2}, {1, 3, Integer.MAX_VALUE, 2}, {Integer.MIN_VALUE, 1, 1, 3},
-        };
-        for (int[] a : nowhere) {
-            expect.refusesArgument("put(" + java.util.Arrays.toString(a) + ")",
-                    () -> p.put(a[0], a[1], a[2], a[3], 1f));
-        }
-        expect.equal("none changes a number", p.sum(), split);
+    /** The document does not say which comes first; this is the order in which it tells them. */
+    private static void argumentsBeforeState() {
+        expect.refusesArgument("join(3)", State.WHOLE_INTS, p -> p.join(3));
+        expect.refusesArgument("join(-1)", State.WHOLE_REALS, p -> p.join(-1));
     }
 }

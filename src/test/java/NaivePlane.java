@@ -2,7 +2,9 @@ import java.math.BigDecimal;
 import java.util.ArrayList;
 import java.util.List;
 import java.util.Map;
+import java.util.Set;
 import java.util.TreeMap;
+import java.util.TreeSet;
 
 /**
  * The document's words, one after the other and without any thought for speed: every band is a
@@ -58,6 +60,9 @@ final class NaivePlane {
             return ((long) y << 32) + x;
         }
     }
+
+    /** The operations on ints that have wrapped round, so that a test can tell that it reached them. */
+    final Set<String> wrapped = new TreeSet<>();
 
     private boolean real;
     private int levels;
@@ -328,7 +333,7 @@ final class NaivePlane {
         if (line.size() == 1 && line.firstKey() % 2 == 1) {
             double v = line.get(line.firstKey());
             double halved = real ? (float) (v / 2) : Math.floor(v / 2);
-            line.put(line.firstKey(), splits ? keep(2 * v) : halved);
+            line.put(line.firstKey(), splits ? keep("twice a number", 2 * v) : halved);
         }
         if (line.size() < 2) {
             return;
@@ -369,12 +374,13 @@ final class NaivePlane {
                 if (real) {
                     part = (float) (with * (float) (a + b));
                 } else if (with == 2) {
-                    part = Math.floor(keep(a + b) / 2);
+                    part = Math.floor(keep("a + b", a + b) / 2);
                 } else {
-                    part = Math.floor(keep(a + b + 2) / 4);
+                    part = Math.floor(keep("a + b + 2", a + b + 2) / 4);
                 }
                 double v = before.get(i);
-                line.put(i, keep(sign > 0 ? v + part : v - part));
+                String of = with == 2 ? "the half" : "the quarter";
+                line.put(i, sign > 0 ? keep("a number and " + of, v + part) : keep("a number less " + of, v - part));
             }
         }
     }
@@ -382,13 +388,20 @@ final class NaivePlane {
     private void times(TreeMap<Integer, Double> line, int odd, double factor) {
         for (int i : new ArrayList<>(line.keySet())) {
             if (i % 2 == odd) {
-                line.put(i, keep(line.get(i) * factor));
+                line.put(i, keep("a product", line.get(i) * factor));
             }
         }
     }
 
     /** As a float, or as an int that has wrapped round. */
-    private double keep(double v) {
-        return real ? (float) v : (int) (long) v;
+    private double keep(String what, double v) {
+        if (real) {
+            return (float) v;
+        }
+        int wrappedRound = (int) (long) v;
+        if (wrappedRound != v) {
+            wrapped.add(what);
+        }
+        return wrappedRound;
     }
 }
