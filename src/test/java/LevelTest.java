@@ -61,14 +61,14 @@ final class LevelTest {
         PlaneSplitter p = new PlaneSplitter();
         p.begin(0, 0, 2, 2, 1, false);
         p.split();
-        p.put(1, 1, 0, 0, 3f);
-        p.put(1, 2, 0, 0, 1f);
+        p.put(1, 3, 0, 0, 1f);
         p.join(1);
-        // Rows: (0, 3) to (-2, 1), (1, 0) to (1, 1); then columns: (-2, 1) to (-3, -2), (1, 1) to (0, 1).
-        expect.equal("joined at 0, 0", p.at(0, 0), -3);
+        // Rows: (0, 0) stays, (0, 1) to (-1, 0); then columns: (0, -1) stays, (0, 0) too.
+        // With the columns first, the -1 would be at 1, 0.
+        expect.equal("joined at 0, 0", p.at(0, 0), 0);
         expect.equal("joined at 1, 0", p.at(1, 0), 0);
-        expect.equal("joined at 0, 1", p.at(0, 1), -2);
-        expect.equal("joined at 1, 1", p.at(1, 1), 1);
+        expect.equal("joined at 0, 1", p.at(0, 1), -1);
+        expect.equal("joined at 1, 1", p.at(1, 1), 0);
     }
 
     private static void levelsGoOnWithBandNought() {
@@ -128,6 +128,19 @@ final class LevelTest {
         q.join(1);
         expect.equal("resolution 1, even", q.at(0, 0), 3);
         expect.equal("resolution 1, odd", q.at(1, 0), 5);
+        PlaneSplitter r = new PlaneSplitter();
+        r.begin(0, 0, 4, 1, 2, false);
+        r.split();
+        r.put(2, 0, 0, 0, 4f);
+        r.put(2, 1, 0, 0, 2f);
+        r.put(1, 1, 0, 0, 4f);
+        r.put(1, 1, 1, 0, 7f);
+        r.join(2);
+        // First 4, 2 to 3, 5; with them 3, 4, 5, 7 to what comes.
+        int[] numbers = {1, 5, 2, 9};
+        for (int i = 0; i < 4; i++) {
+            expect.equal("resolution 2 at " + i, r.at(i, 0), numbers[i]);
+        }
     }
 
     private static void aBandMayBeEmptyAcrossOrDown() {

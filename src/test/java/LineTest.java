@@ -21,6 +21,7 @@ final class LineTest {
             onePlaceJoined(across);
             twoReals(across);
             eachOperationIsRounded(across);
+            joinedTimesTheOtherFactor(across);
             realsAtBothEnds(across);
         }
         onePlaceAcrossAndDown();
@@ -289,6 +290,28 @@ final class LineTest {
         }
         expect.isTrue("the numbers are such that doubles would show", otherInDoubles > 0);
         expect.isTrue("the numbers are such that an unrounded product would show", otherUnrounded > 0);
+    }
+
+    /** To multiply by K is not, to the last bit, to divide by L. */
+    private static void joinedTimesTheOtherFactor(boolean across) {
+        int otherDivided = 0;
+        for (int v = 1000; v < 1100; v++) {
+            PlaneSplitter p = line(across, 0, true, 0, 0);
+            p.split();
+            put(across, p, 0, 0, v / 7.0f);
+            put(across, p, highBand(across), 0, v / 9.0f);
+            p.join(1);
+            float even = v / 7.0f * K;
+            float odd = v / 9.0f * L;
+            otherDivided += even != v / 7.0f / L || odd != v / 9.0f / K ? 1 : 0;
+            even = even - D * (odd + odd);
+            odd = odd - C * (even + even);
+            even = even - B * (odd + odd);
+            odd = odd - A * (even + even);
+            expect.equalReal("even", real(across, p, 0), even);
+            expect.equalReal("odd", real(across, p, 1), odd);
+        }
+        expect.isTrue("the numbers are such that a division would show", otherDivided > 0);
     }
 
     private static void realsAtBothEnds(boolean across) {
