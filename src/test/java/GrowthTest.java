@@ -2,7 +2,7 @@ import java.util.Set;
 import java.util.TreeSet;
 
 /**
- * Terms: ints wrap round. Promises 7, 10 and 13: of reals, ints as Java casts. No set and no put
+ * Terms: ints wrap round. Promises 10 and 13: of reals, ints as Java casts. No set and no put
  * reaches so far, but numbers grow while some are set and put anew between a split and a join.
  * The grids below were searched for with this in mind: + stands for 16,777,216 and - for
  * -16,777,216 at a place of the plane, . for a number that stays. The first grid is set, the plane
