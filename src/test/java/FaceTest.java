@@ -11,17 +11,17 @@ import java.util.Set;
 /** The public face, and the rules of the language about members and static fields. */
 final class FaceTest {
     private static final List<String> FACE = List.of(
-            "int at(int, int)",
-            "int band(int, int, int, int)",
-            "float bandReal(int, int, int, int)",
-            "void begin(int, int, int, int, int, boolean)",
-            "int edge(int, int, int)",
-            "void fill(int, int, int)",
-            "void join(int)",
-            "void put(int, int, int, int, float)",
-            "float real(int, int)",
-            "void set(int, int, int)",
-            "void split()",
+            "void begin(int, int, int, int, int, boolean) throws IllegalArgumentException",
+            "void set(int, int, int) throws IllegalArgumentException, IllegalStateException",
+            "void fill(int, int, int) throws IllegalStateException",
+            "void split() throws IllegalStateException",
+            "void join(int) throws IllegalArgumentException, IllegalStateException",
+            "int at(int, int) throws IllegalArgumentException, IllegalStateException",
+            "float real(int, int) throws IllegalArgumentException, IllegalStateException",
+            "int edge(int, int, int) throws IllegalArgumentException",
+            "int band(int, int, int, int) throws IllegalArgumentException, IllegalStateException",
+            "float bandReal(int, int, int, int) throws IllegalArgumentException, IllegalStateException",
+            "void put(int, int, int, int, float) throws IllegalArgumentException, IllegalStateException",
             "int sum()");
 
     public static void main(String[] args) {
@@ -50,6 +50,7 @@ final class FaceTest {
                 open.add(m.getName());
                 got.add(told(m));
                 expect.isTrue(m + " is public", Modifier.isPublic(m.getModifiers()));
+                expect.isTrue(m + " is of an object", !Modifier.isStatic(m.getModifiers()));
             }
         }
         List<String> due = new ArrayList<>(FACE);
@@ -60,17 +61,23 @@ final class FaceTest {
     }
 
     private static String told(Method m) {
-        List<String> parameters = new ArrayList<>();
-        for (Class<?> type : m.getParameterTypes()) {
-            parameters.add(type.getName());
+        String told = m.getReturnType() + " " + m.getName() + "(" + names(m.getParameterTypes()) + ")";
+        return m.getExceptionTypes().length == 0 ? told : told + " throws " + names(m.getExceptionTypes());
+    }
+
+    private static String names(Class<?>[] types) {
+        List<String> names = new ArrayList<>();
+        for (Class<?> type : types) {
+            names.add(type.getSimpleName());
         }
-        return m.getReturnType() + " " + m.getName() + "(" + String.join(", ", parameters) + ")";
+        return String.join(", ", names);
     }
 
     private static void constructors(Expect expect) {
         Constructor<?>[] all = PlaneSplitter.class.getDeclaredConstructors();
         expect.equal("constructors", all.length, 1);
         expect.equal("its parameters", all[0].getParameterCount(), 0);
+        expect.equal("its exceptions", all[0].getExceptionTypes().length, 0);
         expect.isTrue("it is public", Modifier.isPublic(all[0].getModifiers()));
     }
 
